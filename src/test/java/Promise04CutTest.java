@@ -21,7 +21,9 @@ public final class Promise04CutTest {
         Check.due("written behind the cut", 8, x.write(1, 's', 1));
         x.work(1);
         Check.finds(x, "twos", "1:1");
-        Check.due("cut to 0", 8, x.cut(1, 0));
+        Check.due("cut of one character", 1, x.cut(1, 7));
+        Check.dueText("an event of it", "2/1", Check.events(x));
+        Check.due("cut to 0", 7, x.cut(1, 0));
         x.work(1);
         Check.due("no words", 0, x.words(1));
         Check.due("cut of an empty file", 0, x.cut(1, 0));

@@ -40,6 +40,8 @@ public final class Promise10SearchTest {
         Check.finds(x, "car car", "2:6 1:2");
         Check.finds(x, "car* c*", "1:6 2:6");
         Check.finds(x, "none", "");
+        Check.finds(of("abcdefgh", "abcdefgi", "abcdefg"), "abcdefgi", "2:1");
+        Check.finds(of("abcdefgh", "abcdefgi", "abcdefg"), "abcdefgi*", "2:1");
     }
 
     private static void findsPhrases() {
