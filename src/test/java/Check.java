@@ -29,14 +29,21 @@ final class Check {
 
     /**
      * The exception must be just of this class, and nothing that can be seen may have changed. Each
-     * call has an object of its own, for all that is looked at would soon go beyond 512 calls.
+     * look has an object of its own, for all that is looked at would go far beyond 512 calls.
      */
     static void refused(Supplier<FileIndexer> start, String call, Class<?> want,
             ToIntFunction<FileIndexer> run) {
-        FileIndexer x = start.get();
-        String before = seen(x);
-        thrown(x, call, want, run);
-        dueText("the state behind " + call, before, seen(x));
+        thrown(start.get(), call, want, run);
+        dueText("the state behind " + call, Seen.all(start), Seen.all(() -> tried(start.get(), run)));
+    }
+
+    private static FileIndexer tried(FileIndexer x, ToIntFunction<FileIndexer> run) {
+        try {
+            run.applyAsInt(x);
+        } catch (RuntimeException e) {
+            // Which one it is has been looked at already.
+        }
+        return x;
     }
 
     static void thrown(FileIndexer x, String call, Class<?> want, ToIntFunction<FileIndexer> run) {
