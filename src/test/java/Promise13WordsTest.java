@@ -3,6 +3,7 @@ public final class Promise13WordsTest {
     public static void main(String[] args) {
         howManyWords();
         whenItWasRead();
+        whileTheIndexIsLost();
         refusesWhatIsNotInTheIndex();
         Check.end();
     }
@@ -37,6 +38,21 @@ public final class Promise13WordsTest {
         Check.due("be it a folder", 4, x.words(1));
         x.work(8);
         Check.thrown(x, "no longer", Check.NO_SUCH, y -> y.words(1));
+    }
+
+    private static void whileTheIndexIsLost() {
+        FileIndexer x = start();
+        for (int file = 6; file <= 14; file++) {
+            x.make(file, 0, false);
+        }
+        Check.due("LOST", 1, x.count(4));
+        Check.due("the index has what it had", 3, x.words(1));
+        x.remove(1);
+        Check.due("until it is read anew", 3, x.words(1));
+        Check.thrown(x, "not in the index", Check.NO_SUCH, y -> y.words(6));
+        x.rescan();
+        Check.thrown(x, "no longer", Check.NO_SUCH, y -> y.words(1));
+        Check.due("read by rescan", 0, x.words(6));
     }
 
     /** 1 and 15 were read, 2 is a folder, 3 was not read yet, 5 was removed and has left the index. */

@@ -82,7 +82,7 @@ final class Seen {
         return found.toString();
     }
 
-    /** A number, or the first letter of the exception behind what all their names begin with. */
+    /** A number, or A, S or N for an IllegalArgument-, IllegalState- or NoSuchElementException. */
     private static String answer(IntSupplier call) {
         try {
             return Integer.toString(call.getAsInt());
